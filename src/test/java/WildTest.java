@@ -1,0 +1,151 @@
+import java.util.NoSuchElementException;
+
+/** Whatever the numbers, no call throws but was, and what is refused changes nothing. */
+public final class WildTest {
+    private static final int[] WILD = {
+        Integer.MIN_VALUE, Integer.MIN_VALUE + 1, -1025, -1024, -33, -32, -31, -2, -1, 0, 1, 2, 3, 9, 10, 11, 12, 30,
+        31, 32, 33, 59, 60, 61, 1000, 1001, 1023, 1024, 1025, 65536, Integer.MAX_VALUE - 1, Integer.MAX_VALUE,
+    };
+    private static final Due DUE = new Due();
+
+    public static void main(String[] args) {
+        for (int parts = 0; parts <= 10; parts++) {
+            for (int state = 0; state < 4; state++) {
+                one(made(parts, state));
+                two(made(parts, state));
+                three(made(parts, state));
+                refusals(made(parts, state));
+            }
+        }
+        DUE.end("WildTest");
+    }
+
+    /** 0 open, 1 behind the cut, 2 with a train out, 3 behind the cut of the next train. */
+    private static TrainDesk made(int parts, int state) {
+        TrainDesk x = new TrainDesk();
+        for (int p = 0; p < parts; p++) {
+            x.part(1);
+            if (p != 1) {
+                x.offer(p, 2, p + 1);
+            }
+        }
+        x.need(0, 2, 2, 2, 2);
+        x.test(1 << 3);
+        if (state > 0) {
+            x.cut();
+        }
+        if (state > 1) {
+            x.send();
+            x.offer(0, 3, 4);
+        }
+        if (state > 2) {
+            x.cut();
+            x.offer(0, 1, 1);
+        }
+        return x;
+    }
+
+    private static void calm(String call, boolean isCalm) {
+        DUE.is(call + " throws", !isCalm, false);
+    }
+
+    private static void one(TrainDesk x) {
+        for (int a : WILD) {
+            try {
+                x.part(a);
+                x.withdraw(a);
+                x.test(a);
+                x.fits(a);
+                x.red(a);
+                x.why(a);
+                x.order(a);
+                x.blame(a);
+                x.runs(a);
+                x.brought(a);
+                x.count(a);
+                calm("one " + a, true);
+            } catch (RuntimeException e) {
+                calm("one " + a + " " + e, false);
+            }
+        }
+    }
+
+    private static void two(TrainDesk x) {
+        for (int a : WILD) {
+            for (int b : WILD) {
+                try {
+                    x.told(a, b);
+                    x.oneWay(a, b, true);
+                    x.oneWay(a, b, false);
+                    was(x, a, b);
+                    calm("two", true);
+                } catch (RuntimeException e) {
+                    calm("two " + a + " " + b + " " + e, false);
+                }
+            }
+        }
+    }
+
+    private static void was(TrainDesk x, int train, int part) {
+        try {
+            x.was(train, part, true);
+            x.was(train, part, false);
+        } catch (NoSuchElementException e) {
+            DUE.is("was(" + train + ", " + part + ") is of a train and a part there",
+                train >= 0 && train < x.count(3) && part >= 0 && part < x.count(0), false);
+        }
+    }
+
+    private static void three(TrainDesk x) {
+        for (int a : WILD) {
+            for (int b : WILD) {
+                for (int c : WILD) {
+                    try {
+                        x.leave(a, b, c);
+                        x.fix(a, b, c);
+                        x.offer(a, b, c);
+                        x.need(a, b, c, a, b);
+                        x.need(0, a, 1, b, c);
+                        calm("three", true);
+                    } catch (RuntimeException e) {
+                        calm("three " + a + " " + b + " " + c + " " + e, false);
+                    }
+                }
+            }
+        }
+    }
+
+    private static void refusals(TrainDesk x) {
+        String ahead = state(x);
+        for (int a : WILD) {
+            refused(x, ahead, "part", a >= 0 && a <= 1000 ? -1 : x.part(a));
+            refused(x, ahead, "need", x.need(0, 1, a, 5, 4));
+            refused(x, ahead, "need", x.need(a, 1, a, 1, 1));
+            refused(x, ahead, "test", a > 0 && a < 1024 ? -1 : x.test(a));
+            refused(x, ahead, "offer", x.offer(a, a, 0) ? 1 : -1);
+            refused(x, ahead, "fix", x.fix(a, -1, 1));
+            refused(x, ahead, "leave", x.leave(a, 7, 0));
+            refused(x, ahead, "oneWay", x.oneWay(a, 1, false) ? 1 : -1);
+        }
+        for (int p = 0; p < x.count(0); p++) {
+            x.leave(p, 7, 3);
+            refused(x, ahead, "leave is not done", -1);
+        }
+    }
+
+    private static void refused(TrainDesk x, String ahead, String call, int answer) {
+        DUE.is(call + " is refused", answer, -1);
+        DUE.is(call + " changed something: " + state(x) + " from " + ahead, state(x).equals(ahead), true);
+    }
+
+    private static String state(TrainDesk x) {
+        StringBuilder text = new StringBuilder();
+        for (int i = 0; i < 10; i++) {
+            for (int what = 0; what < 5; what++) {
+                text.append(x.told(i, what)).append(' ');
+            }
+            text.append(x.why(i)).append(' ').append(x.order(i)).append(' ').append(x.count(i)).append(", ");
+        }
+        return text.append(x.chosen()).append(' ').append(x.worth()).toString();
+    }
+}
