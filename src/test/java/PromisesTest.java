@@ -35,6 +35,7 @@ public final class PromisesTest {
         was();
         brought();
         count();
+        full();
         DUE.end("PromisesTest");
     }
 
@@ -173,6 +174,8 @@ public final class PromisesTest {
         }
         is("5: there are 30", x.need(0, 2, 1, 2, 3), NONE);
         is("5: count", x.count(1), 30);
+        is("5: 30 that hold", x.fits(7), 1);
+        is("5: 30 that do not", x.fits(1), 0);
     }
 
     private static void needBounds() {
@@ -677,6 +680,7 @@ public final class PromisesTest {
         // 1; without 0-4 red: 2; without 5-7: 3; without 8 of 8, 9: 4.
         is("20: ever the first half", x.blame(1023), 512);
         is("21: ever the first half", x.runs(1023), 4);
+        is("21: asked alone", x.runs(513), 2);
         TrainDesk y = desk(5);
         y.test(1 + 8);
         // {0 1 2}{3 4} no, no; n 4: {0 1} no, {2} red; n 3 of {0 1 3 4}: {0 1} no, {3} no, {4} red;
@@ -780,5 +784,33 @@ public final class PromisesTest {
         is("25: home does not fit", x.count(8), 0);
         is("25: what above", x.count(9), NONE);
         is("25: what below", x.count(-1), NONE);
+    }
+
+    /** Every limit of the document met in one desk. */
+    private static void full() {
+        TrainDesk x = offered(10);
+        for (int n = 0; n < 30; n++) {
+            x.need(n % 9, 2, n % 9 + 1, 2, 2);
+        }
+        for (int t = 0; t < 12; t++) {
+            x.test(1023);
+        }
+        for (int v = 0; v < 60; v++) {
+            x.oneWay(v % 10, 100 + v, true);
+        }
+        is("full: all ten are red together", x.red(1023), 0);
+        is("full: nine at the end of the chain", x.cut(), 1022);
+        is("full: 0 is left by a test", x.why(0), 200);
+        is("full: no fix of it can board", x.fix(0, 3, 1000), 0);
+        is("full: 1 gives way to it", x.leave(0, 3, 1000), 2);
+        for (int i = 0; i < 9; i++) {
+            is("full: the chain from its end", x.order(i), 9 - i);
+        }
+        is("full: it goes", x.send(), 0);
+        is("full: home", x.told(9, 0) * 10 + x.told(0, 0), 21);
+        is("full: back", x.back(), 0);
+        is("full: least red set", x.blame(1023), 1023);
+        // 1, then 2, 4, 8 and 10 pieces.
+        is("full: its runs", x.runs(1023), 25);
     }
 }
