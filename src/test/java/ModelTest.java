@@ -1,13 +1,13 @@
 import java.util.ArrayList;
 import java.util.List;
-import java.util.NoSuchElementException;
 
 /** Long runs of calls, told again by a slow desk that follows the document's words one by one. */
 public final class ModelTest {
     private static final int NONE = -1;
-    private static final int CALLS = 20;
-    private static final int RUNS = 4000;
-    private static final int GONE = -77;
+    private static final int RUNS = 12000;
+    private static final int GONE = Desk.GONE;
+    // The look at the end takes some 230 calls, and a step three at most.
+    private static final int MOST_AHEAD = Desk.MOST_CALLS - 240;
     private long seed;
 
     private ModelTest(long seed) {
@@ -32,7 +32,7 @@ public final class ModelTest {
     }
 
     private void follow(Due due, int run) {
-        TrainDesk desk = new TrainDesk();
+        Desk desk = new Desk();
         Slow slow = new Slow();
         int wanted = below(11);
         int versions = 2 + below(4);
@@ -40,12 +40,11 @@ public final class ModelTest {
             int v = below(versions);
             due.is("run " + run + " part(" + v + ")", desk.part(v), slow.part(v));
         }
-        for (int call = 0; call < CALLS * 8; call++) {
-            step(due, "run " + run + " call " + call + " ", desk, slow, versions);
-            if (call % 8 == 7) {
-                look(due, "run " + run + " behind call " + call + " ", desk, slow);
-            }
+        int end = desk.calls() + below(MOST_AHEAD - desk.calls());
+        while (desk.calls() < end) {
+            step(due, "run " + run + " call " + desk.calls() + " ", desk, slow, versions);
         }
+        look(due, "run " + run + " behind call " + desk.calls() + " ", desk, slow);
     }
 
     private int anyPart(Slow slow) {
@@ -66,7 +65,7 @@ public final class ModelTest {
             : below(1 << slow.home.size());
     }
 
-    private void step(Due due, String at, TrainDesk desk, Slow slow, int versions) {
+    private void step(Due due, String at, Desk desk, Slow slow, int versions) {
         int p = anyPart(slow);
         int v = anyVersion(versions);
         int w = anyWorth();
@@ -106,7 +105,7 @@ public final class ModelTest {
         }
     }
 
-    private static void look(Due due, String at, TrainDesk desk, Slow slow) {
+    private static void look(Due due, String at, Desk desk, Slow slow) {
         for (int p = -1; p <= 10; p++) {
             for (int what = -1; what <= 5; what++) {
                 due.is(at + "told(" + p + ", " + what + ")", desk.told(p, what), slow.told(p, what));
@@ -114,8 +113,8 @@ public final class ModelTest {
             due.is(at + "why(" + p + ")", desk.why(p), slow.why(p));
             due.is(at + "order(" + p + ")", desk.order(p), slow.order(p));
             for (int t = slow.trains.size() - 2; t <= slow.trains.size(); t++) {
-                due.is(at + "was(" + t + ", " + p + ")", was(desk, t, p, false), slow.was(t, p, false));
-                due.is(at + "was(" + t + ", " + p + ")", was(desk, t, p, true), slow.was(t, p, true));
+                due.is(at + "was(" + t + ", " + p + ")", desk.was(t, p, false), slow.was(t, p, false));
+                due.is(at + "was(" + t + ", " + p + ")", desk.was(t, p, true), slow.was(t, p, true));
                 due.is(at + "brought(" + t + ")", desk.brought(t), slow.brought(t));
             }
         }
@@ -124,14 +123,6 @@ public final class ModelTest {
         }
         due.is(at + "chosen", desk.chosen(), slow.chosen == null ? NONE : bits(slow.chosen));
         due.is(at + "worth", desk.worth(), slow.chosen == null ? NONE : slow.worthOf(slow.chosen));
-    }
-
-    private static int was(TrainDesk desk, int train, int part, boolean behind) {
-        try {
-            return desk.was(train, part, behind);
-        } catch (NoSuchElementException e) {
-            return GONE;
-        }
     }
 
     private static int bits(List<Integer> parts) {

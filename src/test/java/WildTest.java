@@ -1,4 +1,4 @@
-import java.util.NoSuchElementException;
+import java.util.function.ToIntFunction;
 
 /** Whatever the numbers, no call throws but was, and what is refused changes nothing. */
 public final class WildTest {
@@ -12,17 +12,21 @@ public final class WildTest {
         for (int parts = 0; parts <= 10; parts++) {
             for (int state = 0; state < 4; state++) {
                 one(made(parts, state));
-                two(made(parts, state));
-                three(made(parts, state));
-                refusals(made(parts, state));
+                for (int a : WILD) {
+                    two(made(parts, state), a);
+                    for (int b : WILD) {
+                        three(made(parts, state), a, b);
+                    }
+                }
+                refusals(parts, state);
             }
         }
         DUE.end("WildTest");
     }
 
     /** 0 open, 1 behind the cut, 2 with a train out, 3 behind the cut of the next train. */
-    private static TrainDesk made(int parts, int state) {
-        TrainDesk x = new TrainDesk();
+    private static Desk made(int parts, int state) {
+        Desk x = new Desk();
         for (int p = 0; p < parts; p++) {
             x.part(1);
             if (p != 1) {
@@ -49,7 +53,7 @@ public final class WildTest {
         DUE.is(call + " throws", !isCalm, false);
     }
 
-    private static void one(TrainDesk x) {
+    private static void one(Desk x) {
         for (int a : WILD) {
             try {
                 x.part(a);
@@ -70,82 +74,65 @@ public final class WildTest {
         }
     }
 
-    private static void two(TrainDesk x) {
-        for (int a : WILD) {
-            for (int b : WILD) {
-                try {
-                    x.told(a, b);
-                    x.oneWay(a, b, true);
-                    x.oneWay(a, b, false);
-                    was(x, a, b);
-                    calm("two", true);
-                } catch (RuntimeException e) {
-                    calm("two " + a + " " + b + " " + e, false);
-                }
+    private static void two(Desk x, int a) {
+        for (int b : WILD) {
+            try {
+                x.told(a, b);
+                x.oneWay(a, b, true);
+                x.oneWay(a, b, false);
+                was(x, a, b);
+                calm("two", true);
+            } catch (RuntimeException e) {
+                calm("two " + a + " " + b + " " + e, false);
             }
         }
     }
 
-    private static void was(TrainDesk x, int train, int part) {
-        try {
-            x.was(train, part, true);
-            x.was(train, part, false);
-        } catch (NoSuchElementException e) {
-            DUE.is("was(" + train + ", " + part + ") is of a train and a part there",
-                train >= 0 && train < x.count(3) && part >= 0 && part < x.count(0), false);
-        }
+    /** No part comes behind a train here, so each train knows all parts. */
+    private static void was(Desk x, int train, int part) {
+        boolean there = train >= 0 && train < x.count(3) && part >= 0 && part < x.count(0);
+        String call = "was(" + train + ", " + part + ") is of a train and a part there";
+        DUE.is(call, x.was(train, part, true) != Desk.GONE, there);
+        DUE.is(call, x.was(train, part, false) != Desk.GONE, there);
     }
 
-    private static void three(TrainDesk x) {
-        for (int a : WILD) {
-            for (int b : WILD) {
-                for (int c : WILD) {
-                    try {
-                        x.leave(a, b, c);
-                        x.fix(a, b, c);
-                        x.offer(a, b, c);
-                        x.need(a, b, c, a, b);
-                        x.need(0, a, 1, b, c);
-                        calm("three", true);
-                    } catch (RuntimeException e) {
-                        calm("three " + a + " " + b + " " + c + " " + e, false);
-                    }
-                }
+    private static void three(Desk x, int a, int b) {
+        for (int c : WILD) {
+            try {
+                x.leave(a, b, c);
+                x.fix(a, b, c);
+                x.offer(a, b, c);
+                x.need(a, b, c, a, b);
+                x.need(0, a, 1, b, c);
+                calm("three", true);
+            } catch (RuntimeException e) {
+                calm("three " + a + " " + b + " " + c + " " + e, false);
             }
         }
     }
 
-    private static void refusals(TrainDesk x) {
-        String ahead = state(x);
+    private static void refusals(int parts, int state) {
+        String ahead = made(parts, state).seen();
         for (int a : WILD) {
-            refused(x, ahead, "part", a >= 0 && a <= 1000 ? -1 : x.part(a));
-            refused(x, ahead, "need", x.need(0, 1, a, 5, 4));
-            refused(x, ahead, "need", x.need(a, 1, a, 1, 1));
-            refused(x, ahead, "test", a > 0 && a < 1024 ? -1 : x.test(a));
-            refused(x, ahead, "offer", x.offer(a, a, 0) ? 1 : -1);
-            refused(x, ahead, "fix", x.fix(a, -1, 1));
-            refused(x, ahead, "leave", x.leave(a, 7, 0));
-            refused(x, ahead, "oneWay", x.oneWay(a, 1, false) ? 1 : -1);
+            refused(made(parts, state), ahead, "part", x -> a >= 0 && a <= 1000 ? -1 : x.part(a));
+            refused(made(parts, state), ahead, "need lo above hi", x -> x.need(0, 1, a, 5, 4));
+            refused(made(parts, state), ahead, "need alike", x -> x.need(a, 1, a, 1, 1));
+            refused(made(parts, state), ahead, "test", x -> a > 0 && a < 1024 ? -1 : x.test(a));
+            refused(made(parts, state), ahead, "offer", x -> x.offer(a, a, 0) ? 1 : -1);
+            refused(made(parts, state), ahead, "fix", x -> x.fix(a, -1, 1));
+            refused(made(parts, state), ahead, "leave", x -> x.leave(a, 7, 0));
+            refused(made(parts, state), ahead, "oneWay", x -> x.oneWay(a, 1, false) ? 1 : -1);
         }
-        for (int p = 0; p < x.count(0); p++) {
+        for (int p = 0; p < parts; p++) {
+            Desk x = made(parts, state);
             x.leave(p, 7, 3);
-            refused(x, ahead, "leave is not done", -1);
+            refused(x, ahead, "leave is not done", same -> -1);
         }
     }
 
-    private static void refused(TrainDesk x, String ahead, String call, int answer) {
-        DUE.is(call + " is refused", answer, -1);
-        DUE.is(call + " changed something: " + state(x) + " from " + ahead, state(x).equals(ahead), true);
-    }
-
-    private static String state(TrainDesk x) {
-        StringBuilder text = new StringBuilder();
-        for (int i = 0; i < 10; i++) {
-            for (int what = 0; what < 5; what++) {
-                text.append(x.told(i, what)).append(' ');
-            }
-            text.append(x.why(i)).append(' ').append(x.order(i)).append(' ').append(x.count(i)).append(", ");
-        }
-        return text.append(x.chosen()).append(' ').append(x.worth()).toString();
+    private static void refused(Desk x, String ahead, String call, ToIntFunction<Desk> asked) {
+        DUE.is(call + " is refused", asked.applyAsInt(x), -1);
+        String behind = x.seen();
+        DUE.is(call + " changed something: " + behind + " from " + ahead, behind.equals(ahead), true);
     }
 }
