@@ -1,5 +1,4 @@
 import java.util.function.Consumer;
-import java.util.function.ToIntFunction;
 
 /** Promises 9 to 15 and 17, sentence by sentence: the case on each edge, just within it and just beyond it. */
 public final class CutEdgesTest extends Edges {
@@ -27,6 +26,7 @@ public final class CutEdgesTest extends Edges {
         fixVersionAtHome();
         fixDoesNotBoard();
         fixBoards();
+        fixBoardsWithoutAnOrder();
         leaveNoCut();
         leaveNoSuchPart();
         leaveOutOfBounds();
@@ -35,6 +35,7 @@ public final class CutEdgesTest extends Edges {
         leaveNoSuchSet();
         leaveNobody();
         leaveWho();
+        leaveChosenPartsAlone();
         orderWithout();
         orderNoCut();
         orderNone();
@@ -176,25 +177,15 @@ public final class CutEdgesTest extends Edges {
         is("9: ten parts without offers", made(parts(10)).cut(), 0);
     }
 
-    private static void noCutIn(String told, ToIntFunction<Desk> call) {
-        none(told + " of a new object", parts(0), call);
-        none(told + " of parts alone", parts(3), call);
-        none(told + " ahead of it", Edges::open, call);
-        none(told + " it is sent", Edges::sent, call);
-        none(told + " it is taken back", Edges::takenBack, call);
-        none(told + " it is given up", ((Consumer<Desk>) Edges::behindTheCut).andThen(Desk::giveUp), call);
-        none(told + " it was refused", parts(3).andThen(d -> d.need(0, 5, 1, 6, 6)).andThen(Desk::cut), call);
-    }
-
     private static void chosenNoCut() {
-        noCutIn("10: no cut:", Desk::chosen);
+        noneWithoutACut("10: no cut:", Desk::chosen);
         is("10: a cut", made(Edges::behindTheCut).chosen(), 3);
         is("10: a cut that chose nothing", made(Edges::emptyCut).chosen(), 0);
         is("10: a cut without an order", made(Edges::noOrder).chosen(), 3);
     }
 
     private static void worthNoCut() {
-        noCutIn("11: no cut:", Desk::worth);
+        noneWithoutACut("11: no cut:", Desk::worth);
         is("11: a cut", made(Edges::behindTheCut).worth(), 30);
         is("11: a cut that chose nothing", made(Edges::emptyCut).worth(), 0);
         Desk d = made(parts(2));
@@ -204,8 +195,8 @@ public final class CutEdgesTest extends Edges {
     }
 
     private static void whyNoCut() {
-        noCutIn("12: no cut:", d -> d.why(0));
-        noCutIn("12: no cut:", d -> d.why(2));
+        noneWithoutACut("12: no cut:", d -> d.why(0));
+        noneWithoutACut("12: no cut:", d -> d.why(2));
         is("12: a cut", made(CutEdgesTest::leftBehind).why(0), 200);
     }
 
@@ -287,7 +278,7 @@ public final class CutEdgesTest extends Edges {
     }
 
     private static void fixNoCut() {
-        noCutIn("13: no cut:", d -> d.fix(2, 9, 1));
+        noneWithoutACut("13: no cut:", d -> d.fix(2, 9, 1));
         is("13: a cut", made(Edges::emptyCut).fix(2, 9, 1), 1);
     }
 
@@ -362,6 +353,14 @@ public final class CutEdgesTest extends Edges {
         unchanged("13: a chosen one needs it at hi at most", needing, d -> d.fix(1, 6, 1), 0);
         is("13: it is at lo", made(needing).fix(1, 4, 1), 1);
         unchanged("13: it is just below lo", needing, d -> d.fix(1, 3, 1), 0);
+        Consumer<Desk> left = x -> {
+            parts(2).accept(x);
+            x.need(0, 6, 1, 6, 6);
+            x.need(1, 6, 0, 6, 6);
+            x.offer(0, 6, 1);
+            x.cut();
+        };
+        unchanged("13: it needs one that is left, and would not bring it", left, d -> d.fix(1, 6, 1), 0);
     }
 
     private static void fixBoards() {
@@ -374,18 +373,6 @@ public final class CutEdgesTest extends Edges {
         is("13: the kept one stays", d.told(2, 3) * 10 + d.told(2, 4), 83);
         is("13: the order", d.order(0) * 10 + d.order(1), 12);
         is("13: no third", d.order(2), NONE);
-        Desk ring = made(parts(2));
-        ring.need(0, 6, 1, 6, 6);
-        ring.need(1, 6, 0, 6, 6);
-        ring.offer(0, 6, 1);
-        ring.cut();
-        unchanged("13: alone in a ring", x -> {
-            parts(2).accept(x);
-            x.need(0, 6, 1, 6, 6);
-            x.need(1, 6, 0, 6, 6);
-            x.cut();
-        }, x -> x.fix(0, 6, 1), 0);
-        is("13: a left one does not board with it", ring.fix(1, 6, 1), 0);
         Desk all = made(parts(10).andThen(Desk::cut));
         for (int p = 0; p < 10; p++) {
             is("13: one by one", all.fix(p, 6, 1000), 1);
@@ -395,8 +382,23 @@ public final class CutEdgesTest extends Edges {
         is("13: the last", all.order(9), 9);
     }
 
+    private static void fixBoardsWithoutAnOrder() {
+        Desk home = made(CutEdgesTest::mended);
+        is("13: home does not fit, so there is no order", home.fix(2, 6, 1), 1);
+        is("13: it is chosen", home.chosen(), 6);
+        is("13: there is none still", home.order(0), NONE);
+        Desk ring = made(then(Edges::noOrder, d -> {
+            d.giveUp();
+            d.part(5);
+            d.cut();
+        }));
+        is("13: a ring, so there is no order", ring.fix(3, 6, 1), 1);
+        is("13: it is chosen", ring.chosen(), 11);
+        is("13: the ring is there still", ring.order(0), NONE);
+    }
+
     private static void leaveNoCut() {
-        noCutIn("14: no cut:", d -> d.leave(2, 9, 1));
+        noneWithoutACut("14: no cut:", d -> d.leave(2, 9, 1));
         unchanged("14: a cut", Edges::emptyCut, d -> d.leave(2, 9, 1), 0);
     }
 
@@ -504,8 +506,26 @@ public final class CutEdgesTest extends Edges {
             x.cut();
         });
         unchanged("14: all nine", nine, d -> d.leave(9, 6, 1), 511);
-        Consumer<Desk> late = ((Consumer<Desk>) CutEdgesTest::leftBehind).andThen(d -> d.fix(2, 6, 1));
+        Consumer<Desk> late = then(CutEdgesTest::leftBehind, d -> d.fix(2, 6, 1));
         unchanged("14: one that boarded late stays", late, d -> d.leave(0, 7, 1), 2);
+    }
+
+    /** Part 3 is left: it is red with 0 and with 1, and worth less than both. */
+    private static void leaveChosenPartsAlone() {
+        Consumer<Desk> left = x -> {
+            offered(2).accept(x);
+            x.part(5);
+            x.part(5);
+            x.offer(3, 6, 15);
+            x.test(7);
+            x.test(9);
+            x.test(10);
+            x.need(2, 7, 3, 6, 6);
+            x.cut();
+        };
+        is("14: 0 and 1 are chosen", made(left).chosen(), 3);
+        unchanged("14: 1 leaves, though 3 would be worth more than 0", left, d -> d.leave(2, 6, 1), 2);
+        none("14: it needs 3, which is left", left, d -> d.leave(2, 7, 1));
     }
 
     private static void orderWithout() {
@@ -529,7 +549,7 @@ public final class CutEdgesTest extends Edges {
     }
 
     private static void orderNoCut() {
-        noCutIn("15: no cut:", d -> d.order(0));
+        noneWithoutACut("15: no cut:", d -> d.order(0));
         is("15: a cut", made(Edges::behindTheCut).order(0), 1);
     }
 
@@ -591,12 +611,7 @@ public final class CutEdgesTest extends Edges {
     }
 
     private static void giveUpNone() {
-        no("17: of a new object", parts(0), Desk::giveUp);
-        no("17: ahead of it", Edges::open, Desk::giveUp);
-        no("17: it is sent", Edges::sent, Desk::giveUp);
-        no("17: it is taken back", Edges::takenBack, Desk::giveUp);
-        no("17: it is given up", ((Consumer<Desk>) Edges::behindTheCut).andThen(Desk::giveUp), Desk::giveUp);
-        no("17: it was refused", parts(3).andThen(d -> d.need(0, 5, 1, 6, 6)).andThen(Desk::cut), Desk::giveUp);
+        refusedWithoutACut("17: no cut:", d -> d.giveUp() ? 1 : 0, 0);
         is("17: one", made(Edges::behindTheCut).giveUp(), true);
         is("17: one that chose nothing", made(Edges::emptyCut).giveUp(), true);
         is("17: one without an order", made(Edges::noOrder).giveUp(), true);

@@ -32,6 +32,10 @@ abstract class Edges {
         return d;
     }
 
+    static Consumer<Desk> then(Consumer<Desk> first, Consumer<Desk> next) {
+        return first.andThen(next);
+    }
+
     /** Parts at home at 5, so that there are versions on both sides of it. */
     static Consumer<Desk> parts(int many) {
         return d -> {
@@ -140,5 +144,21 @@ abstract class Edges {
         for (int i = 0; i < STATES.size(); i++) {
             no(told + ", state " + i, STATES.get(i), call);
         }
+    }
+
+    /** Refused in every state that has no cut at hand. */
+    static void refusedWithoutACut(String told, ToIntFunction<Desk> call, int answer) {
+        unchanged(told + " of a new object", parts(0), call, answer);
+        unchanged(told + " of parts alone", parts(3), call, answer);
+        unchanged(told + " ahead of it", Edges::open, call, answer);
+        unchanged(told + " it is sent", Edges::sent, call, answer);
+        unchanged(told + " it is taken back", Edges::takenBack, call, answer);
+        unchanged(told + " it is given up", then(Edges::behindTheCut, Desk::giveUp), call, answer);
+        unchanged(told + " it was refused", parts(3).andThen(d -> d.need(0, 5, 1, 6, 6)).andThen(Desk::cut), call,
+            answer);
+    }
+
+    static void noneWithoutACut(String told, ToIntFunction<Desk> call) {
+        refusedWithoutACut(told, call, NONE);
     }
 }

@@ -37,6 +37,7 @@ public final class OpenEdgesTest extends Edges {
         redNone();
         redNoSuchParts();
         redFirst();
+        fitsAndRedBehindTheCut();
         DUE.end("OpenEdgesTest");
     }
 
@@ -100,7 +101,7 @@ public final class OpenEdgesTest extends Edges {
         none("2: a cut that chose nothing", Edges::emptyCut, d -> d.part(5));
         none("2: a cut without an order", Edges::noOrder, d -> d.part(5));
         none("2: a cut of no parts", parts(0).andThen(Desk::cut), d -> d.part(5));
-        is("2: it is given up", made(((Consumer<Desk>) Edges::behindTheCut).andThen(Desk::giveUp)).part(5), 3);
+        is("2: it is given up", made(then(Edges::behindTheCut, Desk::giveUp)).part(5), 3);
         is("2: it is sent", made(Edges::sent).part(5), 3);
         Desk refused = made(parts(2));
         refused.need(0, 5, 1, 6, 6);
@@ -389,7 +390,7 @@ public final class OpenEdgesTest extends Edges {
         none("7: one that is kept is none", Edges::behindTheCut, d -> d.fits(4));
         none("7: it went out", Edges::sent, d -> d.fits(2));
         is("7: it came", made(Edges::sent).fits(4), 1);
-        none("7: it was taken back", ((Consumer<Desk>) Edges::open).andThen(d -> d.withdraw(1)), d -> d.fits(2));
+        none("7: it was taken back", then(Edges::open, d -> d.withdraw(1)), d -> d.fits(2));
     }
 
     private static void fitsNoneSuch() {
@@ -481,5 +482,18 @@ public final class OpenEdgesTest extends Edges {
         is("8: the first of twelve", d.red(3), 0);
         is("8: the last of twelve", d.red(4), 11);
         is("8: the first of both", d.red(7), 0);
+    }
+
+    /** No cut refuses them; kept offers are not asked. */
+    private static void fitsAndRedBehindTheCut() {
+        Desk d = made(Edges::behindTheCut);
+        is("7: the chosen", d.fits(3), 1);
+        is("7: 0 without 1", d.fits(1), 0);
+        is("7: nothing", d.fits(0), 1);
+        is("8: red", d.red(7), 0);
+        is("8: not red", d.red(3), NONE);
+        Desk left = made(Edges::nextCut);
+        is("7: a left one", left.fits(4), 1);
+        is("8: a left one", left.red(4), 0);
     }
 }

@@ -14,6 +14,7 @@ public final class TrainEdgesTest extends Edges {
         oneWayItIsSo();
         oneWayThereAre60();
         oneWayNotWhere60Are();
+        oneWayBehindTheCut();
         backNone();
         backACut();
         backOneWay();
@@ -23,6 +24,7 @@ public final class TrainEdgesTest extends Edges {
         backEmptyTrain();
         backLatestNotTakenBack();
         backOffersThatComeHome();
+        backAllTen();
         wasNoSuchTrain();
         wasPartNotThere();
         broughtNoSuchTrain();
@@ -31,12 +33,7 @@ public final class TrainEdgesTest extends Edges {
     }
 
     private static void sendNoCut() {
-        none("16: of a new object", parts(0), Desk::send);
-        none("16: ahead of it", Edges::open, Desk::send);
-        none("16: it is sent", Edges::sent, Desk::send);
-        none("16: it is taken back", Edges::takenBack, Desk::send);
-        none("16: it is given up", ((Consumer<Desk>) Edges::behindTheCut).andThen(Desk::giveUp), Desk::send);
-        none("16: it was refused", parts(3).andThen(d -> d.need(0, 5, 1, 6, 6)).andThen(Desk::cut), Desk::send);
+        noneWithoutACut("16: no cut:", Desk::send);
         is("16: a cut", made(Edges::behindTheCut).send(), 0);
         is("16: a cut that chose nothing", made(Edges::emptyCut).send(), 0);
         is("16: a cut of no parts", made(parts(0).andThen(Desk::cut)).send(), 0);
@@ -211,12 +208,22 @@ public final class TrainEdgesTest extends Edges {
         }
     }
 
+    /** No cut refuses it. */
+    private static void oneWayBehindTheCut() {
+        Desk d = made(Edges::behindTheCut);
+        is("18: behind the cut", d.oneWay(1, 7, true), true);
+        is("18: not, behind the cut", d.oneWay(2, 5, false), true);
+        is("18: one", d.count(6), 1);
+        d.send();
+        is("19: it holds for the train that was at hand", d.back(), NONE);
+    }
+
     private static void backNone() {
         none("19: of a new object", parts(0), Desk::back);
         none("19: none was sent", Edges::open, Desk::back);
         none("19: it is taken back", Edges::takenBack, Desk::back);
         none("19: all are", parts(1).andThen(trains(2)).andThen(Desk::back).andThen(Desk::back), Desk::back);
-        none("19: one was given up", ((Consumer<Desk>) Edges::behindTheCut).andThen(Desk::giveUp), Desk::back);
+        none("19: one was given up", then(Edges::behindTheCut, Desk::giveUp), Desk::back);
         is("19: one", made(Edges::sent).back(), 0);
         Desk all = made(trains(60));
         for (int t = 59; t >= 0; t--) {
@@ -275,19 +282,19 @@ public final class TrainEdgesTest extends Edges {
     }
 
     private static void backWouldNotFit() {
-        Consumer<Desk> needing = ((Consumer<Desk>) Edges::sent).andThen(d -> d.need(2, 5, 0, 6, 6));
+        Consumer<Desk> needing = then(Edges::sent, d -> d.need(2, 5, 0, 6, 6));
         is("19: home fits now", made(needing).count(8), 1);
         none("19: home would not fit", needing, Desk::back);
-        Consumer<Desk> brokenNow = ((Consumer<Desk>) Edges::sent).andThen(d -> d.need(2, 5, 0, 5, 5));
+        Consumer<Desk> brokenNow = then(Edges::sent, d -> d.need(2, 5, 0, 5, 5));
         is("19: home does not fit now", made(brokenNow).count(8), 0);
         is("19: but would", made(brokenNow).back(), 0);
-        Consumer<Desk> ever = ((Consumer<Desk>) Edges::sent).andThen(d -> d.need(2, 5, 0, 9, 9));
+        Consumer<Desk> ever = then(Edges::sent, d -> d.need(2, 5, 0, 9, 9));
         none("19: neither now nor then", ever, Desk::back);
-        none("19: needs among what it brought", ((Consumer<Desk>) Edges::sent).andThen(d -> d.need(0, 5, 1, 6, 7)),
+        none("19: needs among what it brought", then(Edges::sent, d -> d.need(0, 5, 1, 6, 7)),
             Desk::back);
         Consumer<Desk> offeredIt = needing.andThen(d -> d.offer(0, 5, 1));
         none("19: an offer of the version that would come", offeredIt, Desk::back);
-        is("19: tests are not asked", made(((Consumer<Desk>) Edges::sent).andThen(d -> d.test(1))).back(), 0);
+        is("19: tests are not asked", made(then(Edges::sent, d -> d.test(1))).back(), 0);
     }
 
     private static void backWouldNotFitAtTheEdge() {
@@ -353,6 +360,24 @@ public final class TrainEdgesTest extends Edges {
             is("19: another part's stays", d.told(2, 1), 6);
             is("19: offers", d.count(5), row[2]);
         }
+    }
+
+    private static void backAllTen() {
+        Consumer<Desk> out = offered(10).andThen(Desk::cut).andThen(d -> {
+            for (int p = 0; p < 10; p++) {
+                d.offer(p, p % 2 == 0 ? 5 : 7, 1);
+            }
+            d.send();
+        });
+        is("19: all ten kept ones came", made(out).count(5), 10);
+        none("19: the last of ten is one way", out.andThen(d -> d.oneWay(9, 6, true)), Desk::back);
+        Desk d = made(out);
+        is("19: all ten", d.back(), 0);
+        for (int p = 0; p < 10; p++) {
+            is("19: home of " + p, d.told(p, 0), 5);
+            is("19: offer of " + p, d.told(p, 1), p % 2 == 0 ? NONE : 7);
+        }
+        is("19: none is out", d.count(4), 0);
     }
 
     private static void wasNoSuchTrain() {
