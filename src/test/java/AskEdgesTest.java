@@ -18,6 +18,7 @@ public final class AskEdgesTest extends Edges {
         toldNoOffer();
         countOthers();
         countAtTheLimits();
+        countNotTakenBack();
         countCutAndHome();
         all512Calls();
         DUE.end("AskEdgesTest");
@@ -213,6 +214,21 @@ public final class AskEdgesTest extends Edges {
         out.back();
         is("25: one is not", out.count(4), 59);
         is("25: 60 still", out.count(3), 60);
+    }
+
+    /** Those taken back may stand between those that are out. */
+    private static void countNotTakenBack() {
+        int[][] rows = {{1, 1}, {1, 0}, {2, 1}, {3, 2}, {3, 1}, {4, 2}};
+        Desk d = made(parts(1));
+        for (int i = 0; i < rows.length; i++) {
+            if (i == 1 || i == 4) {
+                d.back();
+            } else {
+                trains(1).accept(d);
+            }
+            is("25: trains, step " + i, d.count(3), rows[i][0]);
+            is("25: those not taken back, step " + i, d.count(4), rows[i][1]);
+        }
     }
 
     private static void countCutAndHome() {

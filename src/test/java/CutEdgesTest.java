@@ -19,6 +19,7 @@ public final class CutEdgesTest extends Edges {
         whyFirstNeed();
         whyFirstTest();
         whyNothing();
+        whyNotByWhatIsKept();
         fixNoCut();
         fixNoSuchPart();
         fixOutOfBounds();
@@ -26,6 +27,7 @@ public final class CutEdgesTest extends Edges {
         fixVersionAtHome();
         fixDoesNotBoard();
         fixBoards();
+        fixOfOneThatIsLeft();
         fixBoardsWithoutAnOrder();
         leaveNoCut();
         leaveNoSuchPart();
@@ -35,6 +37,7 @@ public final class CutEdgesTest extends Edges {
         leaveNoSuchSet();
         leaveNobody();
         leaveWho();
+        leaveOfOneThatIsLeft();
         leaveChosenPartsAlone();
         orderWithout();
         orderNoCut();
@@ -61,6 +64,16 @@ public final class CutEdgesTest extends Edges {
         parts(3).accept(d);
         d.need(0, 5, 1, 6, 6);
         d.offer(1, 6, 10);
+        d.cut();
+    }
+
+    /** Part 0 is left at 6, worth 10, as it needs 1 at 9; at 7 nothing is in its way. Part 1 is chosen, worth 20. */
+    private static void leftByANeed(Desk d) {
+        parts(2).accept(d);
+        d.offer(0, 6, 10);
+        d.offer(1, 6, 20);
+        d.need(0, 8, 1, 5, 5);
+        d.need(0, 6, 1, 9, 9);
         d.cut();
     }
 
@@ -272,9 +285,26 @@ public final class CutEdgesTest extends Edges {
         Desk d = made(alone);
         is("12: 1 boards late", d.fix(1, 6, 1), 1);
         is("12: nothing is in the way", d.why(0), 0);
+        is("13: so it boards as it was offered", d.fix(0, 6, 10), 1);
+        is("13: both are chosen", d.chosen() * 100 + d.worth(), 311);
         Desk far = made(alone);
         is("12: 1 boards late, beyond what it needs", far.fix(1, 7, 1), 1);
         is("12: it is in the way", far.why(0), 100);
+    }
+
+    /** What is kept is for the next train: WHY is of the offer that was left. */
+    private static void whyNotByWhatIsKept() {
+        is("12: left at 6", made(CutEdgesTest::leftByANeed).why(0), 101);
+        for (int v : new int[] {7, 8}) {
+            Desk d = made(CutEdgesTest::leftByANeed);
+            d.offer(0, v, 1);
+            is("12: left at 6, kept at " + v, d.why(0), 101);
+        }
+        Desk chosen = made(CutEdgesTest::leftByANeed);
+        chosen.offer(1, 9, 1);
+        is("12: what it needs is kept for the next train", chosen.why(0), 101);
+        chosen.giveUp();
+        is("9: where both fit together", chosen.cut(), 3);
     }
 
     private static void fixNoCut() {
@@ -380,6 +410,25 @@ public final class CutEdgesTest extends Edges {
         is("13: all ten", all.chosen(), 1023);
         is("13: their sum", all.worth(), 10000);
         is("13: the last", all.order(9), 9);
+    }
+
+    /** It gets another offer: the version and the worth of the fix are in the place of those that were left. */
+    private static void fixOfOneThatIsLeft() {
+        unchanged("13: left, at the version that was left", CutEdgesTest::leftByANeed, d -> d.fix(0, 6, 10), 0);
+        unchanged("13: left, at another that needs", CutEdgesTest::leftByANeed, d -> d.fix(0, 8, 3), 0);
+        Consumer<Desk> fixed = then(CutEdgesTest::leftByANeed, d -> d.fix(0, 7, 3));
+        Desk d = made(fixed);
+        is("13: left, and boards at another version", d.chosen(), 3);
+        is("13: with the worth of the fix", d.worth(), 23);
+        is("13: its offer is the fix", d.told(0, 1) * 10 + d.told(0, 2), 73);
+        is("13: two offers still", d.count(5), 2);
+        is("13: it will be at home at 7", d.offer(0, 7, 1), false);
+        d.send();
+        is("13: it is at home at 7", d.told(0, 0), 7);
+        is("13: no offer of it is left", d.told(0, 1), NONE);
+        Desk up = made(fixed);
+        up.giveUp();
+        is("13: given up, the fix is its offer still", up.told(0, 1) * 10 + up.told(0, 2), 73);
     }
 
     private static void fixBoardsWithoutAnOrder() {
@@ -508,6 +557,13 @@ public final class CutEdgesTest extends Edges {
         unchanged("14: all nine", nine, d -> d.leave(9, 6, 1), 511);
         Consumer<Desk> late = then(CutEdgesTest::leftBehind, d -> d.fix(2, 6, 1));
         unchanged("14: one that boarded late stays", late, d -> d.leave(0, 7, 1), 2);
+    }
+
+    /** LEAVE is of the fix, not of the offer that was left. */
+    private static void leaveOfOneThatIsLeft() {
+        none("14: at the version that was left", CutEdgesTest::leftByANeed, d -> d.leave(0, 6, 1000));
+        unchanged("14: at one that nothing is in the way of", CutEdgesTest::leftByANeed, d -> d.leave(0, 7, 1), 0);
+        unchanged("14: at one that needs 1 at home", CutEdgesTest::leftByANeed, d -> d.leave(0, 8, 1), 2);
     }
 
     /** Part 3 is left: it is red with 0 and with 1, and worth less than both. */

@@ -19,6 +19,7 @@ public final class TrainEdgesTest extends Edges {
         backACut();
         backOneWay();
         backOneWayOfOthers();
+        backOneWayAsItIsNow();
         backWouldNotFit();
         backWouldNotFitAtTheEdge();
         backEmptyTrain();
@@ -279,6 +280,20 @@ public final class TrainEdgesTest extends Edges {
         is("19: an earlier train's part is no hindrance", d.back(), 1);
         is("19: till that train's turn comes", d.back(), NONE);
         is("19: one is out", d.count(4), 1);
+    }
+
+    /** One part by two trains: what is asked is the version that it is at now, not one that it was at. */
+    private static void backOneWayAsItIsNow() {
+        Consumer<Desk> twice = parts(1).andThen(d -> d.offer(0, 6, 1)).andThen(trains(1))
+            .andThen(d -> d.offer(0, 9, 1)).andThen(trains(1));
+        none("19: one way at 9, where it is", twice.andThen(d -> d.oneWay(0, 9, true)), Desk::back);
+        Desk d = made(twice.andThen(x -> x.oneWay(0, 6, true)));
+        is("19: one way at 6, from 9 to 6", d.back(), 1);
+        is("19: home", d.told(0, 0), 6);
+        is("19: one way at 6, where it is now", d.back(), NONE);
+        is("19: home stays", d.told(0, 0) * 10 + d.count(4), 61);
+        is("19: not any more", d.oneWay(0, 6, false), true);
+        is("19: from 6 to 5", d.back(), 0);
     }
 
     private static void backWouldNotFit() {

@@ -1,3 +1,4 @@
+import java.util.Random;
 import java.util.function.ToIntFunction;
 
 /** Whatever the numbers, no call throws but was, and what is refused changes nothing. */
@@ -20,6 +21,9 @@ public final class WildTest {
                 }
                 refusals(parts, state);
             }
+        }
+        for (int seed = 0; seed < 40; seed++) {
+            longAfter(seed);
         }
         DUE.end("WildTest");
     }
@@ -108,6 +112,39 @@ public final class WildTest {
             } catch (RuntimeException e) {
                 calm("three " + a + " " + b + " " + c + " " + e, false);
             }
+        }
+    }
+
+    /** Behind the 512th call the answers are free, but LANGUAGE.md lets no call throw by itself or fail to end. */
+    private static void longAfter(int seed) {
+        Random any = new Random(seed);
+        TrainDesk x = new TrainDesk();
+        for (int call = 0; call < 20 * Desk.MOST_CALLS; call++) {
+            int p = any.nextInt(11);
+            int v = any.nextInt(5);
+            try {
+                lateCall(x, any.nextInt(12), p, v, any.nextInt(1024));
+                calm("late", true);
+            } catch (RuntimeException e) {
+                calm("late, seed " + seed + " call " + call + " " + e, false);
+            }
+        }
+    }
+
+    private static void lateCall(TrainDesk x, int which, int p, int v, int set) {
+        switch (which) {
+            case 0: x.part(v); break;
+            case 1: x.offer(p, v, 1 + set % 9); break;
+            case 2: x.need(p, v, set % 10, v / 2, 4); break;
+            case 3: x.test(set); break;
+            case 4: x.cut(); break;
+            case 5: x.fix(p, v, 1 + set % 9); break;
+            case 6: x.leave(p, v, 1 + set % 9); break;
+            case 7: x.send(); break;
+            case 8: x.giveUp(); break;
+            case 9: x.oneWay(p, v + set, set % 3 != 0); break;
+            case 10: x.back(); break;
+            default: x.blame(set); x.runs(set); x.why(p); x.order(p); x.told(p, v); x.fits(set); x.withdraw(p);
         }
     }
 
